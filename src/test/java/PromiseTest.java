@@ -55,6 +55,7 @@ public final class PromiseTest {
         worth();
         bestLook();
         count();
+        fullObject();
         wildNumbers();
         System.out.println(wrong == 0 ? "all answers are as due" : wrong + " answers are not as due");
         if (wrong != 0) System.exit(1);
@@ -333,6 +334,13 @@ public final class PromiseTest {
         y.set(0, true);
         due("(-1 - 18) by 4", y.push(0, 1), -5);
         due("-8 less -5", y.push(0, 0), -3);
+        OldBeams z = new OldBeams();
+        z.beam(0, 3, 1, 1, 0);
+        z.seat(0, 0, 1, NONE, 0);
+        z.seat(0, 1, 2, NONE, 0);
+        z.load(0, 3, 7);
+        due("one apart", z.push(0, 1), 14);
+        due("one apart", z.push(0, 0), -7);
     }
 
     private static void bending() {
@@ -394,6 +402,13 @@ public final class PromiseTest {
         // Seat 1 bears 8 of 8.1, seat 0 1: at 9 -9, at 10 -1.
         due("at 9", z.greatest(0, false), 9);
         due("at 9", z.greatest(0, true), 9);
+        OldBeams e = oneBeam();
+        e.load(0, 10, 5);
+        e.prop(0, 5, 1);
+        e.set(0, true);
+        // Seat 1: (50 - 5) by 10 is 4, seat 0 0: the prop alone bends, to the very end.
+        due("at the end", e.greatest(0, false), 5);
+        due("at the end", e.greatest(0, true), 10);
     }
 
     private static void lifts() {
@@ -482,10 +497,12 @@ public final class PromiseTest {
         due("another", x.weight(0, 3, 7), 0);
         due("now it may", x.weight(0, 10, 0), 1);
         due("and again not", x.weight(0, 3, 0), STATE);
+        for (int t = 1; t <= 10; t++) due("all but 0 tenths", x.weight(2, t, 0), 1);
+        due("all would be 0", x.weight(2, 0, 0), STATE);
         x.look(1, 0, 0, 0);
         due("a look at it", x.weight(1, 0, 1), STATE);
         due("a look at it, outside", x.weight(1, 11, 1), OUTSIDE);
-        due("another beam", x.weight(2, 0, 5), 1);
+        due("another beam", x.weight(3, 0, 5), 1);
     }
 
     private static void tool() {
@@ -729,6 +746,35 @@ public final class PromiseTest {
         x.fall(0);
         due("all are down", x.weakest(0), NONE);
         greatChances();
+        nearChances();
+    }
+
+    /** Chances that are one another's neighbours; the weakest is taken away each time. */
+    private static void nearChances() {
+        int[] up = {2, 3, 5, 8, 13, 21, 34};
+        int[] low = {5, 8, 13, 21, 34, 55, 89};
+        int[] due = {1, 3, 5, 6, 4, 2, 0};
+        OldBeams x = new OldBeams();
+        for (int i = 0; i < up.length; i++) {
+            x.beam(0, 10, 10, 10, 0);
+            x.load(i, 5, 400);
+            for (int t = 1; t < 10; t++) x.weight(i, t, 0);
+            x.weight(i, 0, low[i] - up[i]);
+            x.weight(i, 10, up[i]);
+            due("chance", x.chance(i, 0, true), up[i]);
+        }
+        for (int i = 0; i < due.length; i++) {
+            due("weakest of those left, " + i, x.weakest(0), due[i]);
+            x.fall(due[i]);
+        }
+        OldBeams y = new OldBeams();
+        for (int i = 0; i < 2; i++) {
+            y.beam(0, 10, 10, 10, 0);
+            y.load(i, 5, 400);
+            y.weight(i, 10, 10);
+            due("one half", y.chance(i, 0, false), 2);
+        }
+        due("of like ones the least", y.weakest(0), 0);
     }
 
     /** Cross products of these chances do not fit into a long, and a difference of doubles would be 0. */
@@ -999,6 +1045,10 @@ public final class PromiseTest {
         // (36000 - 12000 - 18000) by 99.
         due("an unsure look", x.worth(0, 1, 0, true), 2000);
         due("an unsure look", x.worth(0, 1, 0, false), 33);
+        for (int t = 0; t <= 10; t++) x.tool(3, t, t < 4 ? 6 : 1);
+        // Outcome 1: odds 7 and 24 of 31: mend, 12400. Outcome 0: 56 and 12 of 68: loss, 12000. 36000 ahead, all by 99.
+        due("a look whose outcome 0 is the good one", x.worth(0, 3, 0, true), 11600);
+        due("a look whose outcome 0 is the good one", x.worth(0, 3, 0, false), 99);
         due("a blind look", x.worth(0, 2, 0, true), 0);
         due("a blind look", x.worth(0, 2, 0, false), 1);
         x.look(0, 0, 1, 5);
@@ -1041,6 +1091,17 @@ public final class PromiseTest {
         due("not one that is down", x.bestLook(9), 31);
         x.fall(3);
         due("none", x.bestLook(9), NONE);
+        OldBeams y = oneBeam();
+        y.load(0, 5, 400);
+        y.weight(0, 10, 99);
+        y.weight(0, 0, 0);
+        y.price(0, 1);
+        y.price(1, 10);
+        y.tool(0, 10, 9);
+        // Ahead 90 by 108; surely known 9 by 108.
+        due("beam 0, tool 0, less than 1", y.bestLook(0), 0);
+        due("its worth", y.worth(0, 0, 0, true), 3);
+        due("its worth", y.worth(0, 0, 0, false), 4);
     }
 
     private static void count() {
@@ -1061,6 +1122,43 @@ public final class PromiseTest {
         for (int what = 0; what <= 5; what++) due("count(" + what + ")", x.count(what), due[what]);
         due("what -1", x.count(-1), OUTSIDE);
         due("what 6", x.count(6), OUTSIDE);
+    }
+
+    /** As many of all as there may be, so that no row is left a place too short. */
+    private static void fullObject() {
+        begin("full object");
+        OldBeams x = new OldBeams();
+        for (int i = 0; i < 12; i++) {
+            x.beam(i % 4, 60, 40, 40, 0);
+            if (i > 0) x.seat(i, 1, 60, i - 1, 60);
+        }
+        for (int i = 0; i < 40; i++) x.load(i % 12, 60, 9999);
+        for (int i = 0; i < 8; i++) x.prop(i, 60, 9999);
+        for (int t = 1; t <= 10; t++) x.tool(3, t, 9);
+        for (int i = 0; i < 60; i++) x.look(i % 12, 3, 1, 500);
+        due("all loads go to the last seat", x.push(0, 1), 40 * 9999);
+        due("none bends", x.greatest(0, false), 0);
+        due("it stands", x.stands(0, 500, false), 1);
+        due("until", x.until(0, false), 500);
+        due("none is needed", x.fewest(500), 0);
+        due("none is needed", x.needed(500, 0), NONE);
+        due("all alike", x.weakest(500), 0);
+        due("no look is worth anything", x.bestLook(500), NONE);
+        due("the last one alone", x.chain(11, 500), 1);
+        due("all", x.chain(0, 500), 12);
+        due("one after the other", x.chainAt(0, 500, 1), NONE);
+        due("the least share", x.share(11, 500, 500, false), 1);
+        for (int i = 0; i < 8; i++) due("set", x.set(i, true), 0);
+        due("and with all props", x.push(0, 1), 32 * 9999);
+        due("all have fallen", x.fall(0), 12);
+        OldBeams y = new OldBeams();
+        for (int i = 0; i < 12; i++) {
+            y.beam(0, 2, 1, 1, 0);
+            y.load(i, 1, 9999);
+        }
+        due("all fall by themselves", y.chain(11, 0), 12);
+        due("the last", y.chainAt(11, 0, 11), 10);
+        due("no more", y.chainAt(11, 0, 12), NONE);
     }
 
     private static void wildNumbers() {
