@@ -408,42 +408,36 @@ public final class OldBeams {
         return true;
     }
 
-    private void putChance(int beam) {
-        long all = 0;
-        long held = 0;
+    /** The odds, as they were last reckoned, of the shares with which a beam does not hold. */
+    private long lostOdds(int beam) {
+        long lost = 0;
         for (int t = 0; t < SHARES; t++) {
-            all += looks.known[t];
-            if (frame.holdsWith(beam, t)) held += looks.known[t];
+            if (!frame.holdsWith(beam, t)) lost += looks.known[t];
         }
-        fraction.put(held, all);
+        return lost;
+    }
+
+    private void putChance(int beam) {
+        long all = looks.allOdds();
+        fraction.put(all - lostOdds(beam), all);
     }
 
     private void putMean(int beam) {
-        long all = 0;
-        long lost = 0;
-        for (int t = 0; t < SHARES; t++) {
-            all += looks.known[t];
-            if (!frame.holdsWith(beam, t)) lost += looks.known[t];
-        }
-        fraction.put(cost(all, lost), all);
+        long all = looks.allOdds();
+        fraction.put(cost(all, lostOdds(beam)), all);
     }
 
     /** All costs are kept over nine times all odds, as each look splits the odds by ninths. */
     private void putWorth(int beam, int tool) {
-        long all = 0;
-        long lost = 0;
         long allByOne = 0;
         long lostByOne = 0;
         for (int t = 0; t < SHARES; t++) {
-            long odds = looks.known[t];
-            long byOne = odds * looks.tools[tool][t];
-            all += odds;
+            long byOne = looks.known[t] * looks.tools[tool][t];
             allByOne += byOne;
-            if (!frame.holdsWith(beam, t)) {
-                lost += odds;
-                lostByOne += byOne;
-            }
+            if (!frame.holdsWith(beam, t)) lostByOne += byOne;
         }
+        long all = looks.allOdds();
+        long lost = lostOdds(beam);
         long ahead = OFTEN * cost(all, lost);
         long behind = cost(allByOne, lostByOne) + cost(OFTEN * all - allByOne, OFTEN * lost - lostByOne);
         fraction.put(ahead - behind, OFTEN * all);
@@ -823,6 +817,14 @@ public final class OldBeams {
                 known[t] = next[t] / common;
             }
             return true;
+        }
+
+        long allOdds() {
+            long all = 0;
+            for (int t = 0; t < SHARES; t++) {
+                all += known[t];
+            }
+            return all;
         }
 
         int knownShare(int beam, int year, boolean most) {
