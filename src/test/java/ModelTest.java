@@ -1,5 +1,7 @@
+import java.lang.reflect.Method;
 import java.math.BigInteger;
 import java.util.ArrayList;
+import java.util.Arrays;
 import java.util.List;
 import java.util.Random;
 import java.util.TreeSet;
@@ -12,7 +14,9 @@ public final class ModelTest {
     private static final int UNKNOWN = -900001, OUTSIDE = -900002, STATE = -900003, FULL = -900004, NONE = -900009;
     private static final int RUNS = 900, CALLS = 512;
 
-    public static void main(String[] args) {
+    public static void main(String[] args) throws ReflectiveOperationException {
+        Method[] ofClass = Draw.callsOf(OldBeams.class);
+        Method[] ofModel = Draw.callsOf(Model.class);
         int wrong = 0;
         long[] answers = new long[Draw.NAMES.length];
         for (int seed = 0; seed < RUNS && wrong < 10; seed++) {
@@ -21,8 +25,8 @@ public final class ModelTest {
             Model m = new Model();
             for (int c = 0; c < CALLS; c++) {
                 draw.next(m, c);
-                long got = draw.ask(x);
-                long want = draw.ask(m);
+                long got = draw.ask(x, ofClass);
+                long want = draw.ask(m, ofModel);
                 if (want > UNKNOWN) answers[draw.call]++;
                 if (got != want) {
                     System.out.println("seed " + seed + ", call " + c + ": " + draw.told() + " answered " + got + ", due is " + want);
@@ -174,84 +178,24 @@ public final class ModelTest {
             return NAMES[call] + "(" + n[0] + ", " + n[1] + ", " + n[2] + ", " + n[3] + ", " + n[4] + "; " + yes + ")";
         }
 
-        long ask(OldBeams x) {
-            switch (NAMES[call]) {
-                case "kind": return x.kind(n[0], n[1], n[2]);
-                case "beam": return x.beam(n[0], n[1], n[2], n[3], n[4]);
-                case "seat": return x.seat(n[0], n[1], n[2], n[3], n[4]);
-                case "about": return x.about(n[0], n[1]);
-                case "wet": return x.wet(n[0], yes);
-                case "load": return x.load(n[0], n[1], n[2]);
-                case "takeOff": return x.takeOff(n[0]);
-                case "fall": return x.fall(n[0]);
-                case "push": return x.push(n[0], n[1]);
-                case "bending": return x.bending(n[0], n[1]);
-                case "greatest": return x.greatest(n[0], yes);
-                case "lifts": return x.lifts(n[0]);
-                case "holds": return x.holds(n[0], n[1]);
-                case "needs": return x.needs(n[0]);
-                case "weight": return x.weight(n[0], n[1], n[2]);
-                case "tool": return x.tool(n[0], n[1], n[2]);
-                case "look": return x.look(n[0], n[1], n[2], n[3]);
-                case "odds": return x.odds(n[0], n[1], n[2]);
-                case "quarrel": return x.quarrel(n[0], n[1]);
-                case "share": return x.share(n[0], n[1], n[2], yes);
-                case "stands": return x.stands(n[0], n[1], yes);
-                case "until": return x.until(n[0], yes);
-                case "chance": return x.chance(n[0], n[1], yes);
-                case "weakest": return x.weakest(n[0]);
-                case "chain": return x.chain(n[0], n[1]);
-                case "chainAt": return x.chainAt(n[0], n[1], n[2]);
-                case "prop": return x.prop(n[0], n[1], n[2]);
-                case "set": return x.set(n[0], yes);
-                case "fewest": return x.fewest(n[0]);
-                case "needed": return x.needed(n[0], n[1]);
-                case "price": return x.price(n[0], n[1]);
-                case "mean": return x.mean(n[0], n[1], yes);
-                case "worth": return x.worth(n[0], n[1], n[2], yes);
-                case "bestLook": return x.bestLook(n[0]);
-                default: return x.count(n[0]);
+        /** The numbers go, as drawn, to the call of that name, and the drawn yes or no wherever it takes one. */
+        long ask(Object asked, Method[] calls) throws ReflectiveOperationException {
+            Class<?>[] takes = calls[call].getParameterTypes();
+            Object[] with = new Object[takes.length];
+            for (int i = 0; i < with.length; i++) {
+                if (takes[i] == boolean.class) with[i] = yes;
+                else with[i] = n[i];
             }
+            return ((Number) calls[call].invoke(asked, with)).longValue();
         }
 
-        long ask(Model x) {
-            switch (NAMES[call]) {
-                case "kind": return x.kind(n[0], n[1], n[2]);
-                case "beam": return x.beam(n[0], n[1], n[2], n[3], n[4]);
-                case "seat": return x.seat(n[0], n[1], n[2], n[3], n[4]);
-                case "about": return x.about(n[0], n[1]);
-                case "wet": return x.wet(n[0], yes);
-                case "load": return x.load(n[0], n[1], n[2]);
-                case "takeOff": return x.takeOff(n[0]);
-                case "fall": return x.fall(n[0]);
-                case "push": return x.push(n[0], n[1]);
-                case "bending": return x.bending(n[0], n[1]);
-                case "greatest": return x.greatest(n[0], yes);
-                case "lifts": return x.lifts(n[0]);
-                case "holds": return x.holds(n[0], n[1]);
-                case "needs": return x.needs(n[0]);
-                case "weight": return x.weight(n[0], n[1], n[2]);
-                case "tool": return x.tool(n[0], n[1], n[2]);
-                case "look": return x.look(n[0], n[1], n[2], n[3]);
-                case "odds": return x.odds(n[0], n[1], n[2]);
-                case "quarrel": return x.quarrel(n[0], n[1]);
-                case "share": return x.share(n[0], n[1], n[2], yes);
-                case "stands": return x.stands(n[0], n[1], yes);
-                case "until": return x.until(n[0], yes);
-                case "chance": return x.chance(n[0], n[1], yes);
-                case "weakest": return x.weakest(n[0]);
-                case "chain": return x.chain(n[0], n[1]);
-                case "chainAt": return x.chainAt(n[0], n[1], n[2]);
-                case "prop": return x.prop(n[0], n[1], n[2]);
-                case "set": return x.set(n[0], yes);
-                case "fewest": return x.fewest(n[0]);
-                case "needed": return x.needed(n[0], n[1]);
-                case "price": return x.price(n[0], n[1]);
-                case "mean": return x.mean(n[0], n[1], yes);
-                case "worth": return x.worth(n[0], n[1], n[2], yes);
-                case "bestLook": return x.bestLook(n[0]);
-                default: return x.count(n[0]);
+        static Method[] callsOf(Class<?> asked) {
+            Method[] calls = new Method[NAMES.length];
+            for (Method m : asked.getDeclaredMethods()) {
+                int i = Arrays.asList(NAMES).indexOf(m.getName());
+                if (i >= 0) calls[i] = m;
             }
+            return calls;
         }
     }
 
@@ -668,7 +612,7 @@ public final class ModelTest {
             boolean stood = false;
             while (y <= 500) {
                 int[] shares = sharesOf(year, y, maybe);
-                if (tried == null || !java.util.Arrays.equals(tried, shares)) stood = n.stood(shares);
+                if (tried == null || !Arrays.equals(tried, shares)) stood = n.stood(shares);
                 if (!stood) break;
                 tried = shares;
                 last = y++;
