@@ -1,21 +1,5 @@
 /** For each promise of the document: ordinary inputs, the edges that it names, and wrong inputs; answers reckoned by hand. */
-public final class PromiseTest {
-    private static final int UNKNOWN = -900001, OUTSIDE = -900002, STATE = -900003, FULL = -900004, NONE = -900009;
-    private static final int[] WILD = {Integer.MIN_VALUE, -900009, -900001, -1, 501, 900009, Integer.MAX_VALUE};
-
-    private static int wrong = 0;
-    private static String promise = "";
-
-    private static void due(String call, long got, long want) {
-        if (got == want) return;
-        wrong++;
-        System.out.println(promise + ": " + call + " answered " + got + ", due is " + want);
-    }
-
-    private static void begin(String name) {
-        promise = name;
-    }
-
+public final class PromiseTest extends Checks {
     public static void main(String[] args) {
         newObject();
         kind();
@@ -57,31 +41,7 @@ public final class PromiseTest {
         count();
         fullObject();
         wildNumbers();
-        System.out.println(wrong == 0 ? "all answers are as due" : wrong + " answers are not as due");
-        if (wrong != 0) System.exit(1);
-    }
-
-    /** One beam of length 10 whose whole strength is 1000, on posts at its ends. */
-    private static OldBeams oneBeam() {
-        OldBeams x = new OldBeams();
-        x.beam(0, 10, 10, 10, 0);
-        return x;
-    }
-
-    /** Beam 1 rests with seat 0 on the middle of beam 0, beam 2 with seat 1 on the middle of beam 1; beam 3 stands alone. */
-    private static OldBeams tower() {
-        OldBeams x = new OldBeams();
-        for (int i = 0; i < 4; i++) x.beam(0, 10, 10, 10, 0);
-        x.seat(1, 0, 0, 0, 5);
-        x.seat(2, 1, 10, 1, 5);
-        return x;
-    }
-
-    /** Leaves a beam with no other share than this one. */
-    private static void onlyShare(OldBeams x, int beam, int share) {
-        for (int t = 0; t <= 10; t++) {
-            if (t != share) x.weight(beam, t, 0);
-        }
+        end("all answers are as due");
     }
 
     private static void newObject() {

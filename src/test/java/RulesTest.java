@@ -14,7 +14,7 @@ import java.util.regex.Matcher;
 import java.util.regex.Pattern;
 
 /** The document's face, the rules of LANGUAGE.md that a text or the class file can show, and the room that calls take. */
-public final class RulesTest {
+public final class RulesTest extends Checks {
     private static final String SOURCE = "src/main/java/OldBeams.java";
     private static final String[] FACE = {
         "int kind(int,int,int)", "int beam(int,int,int,int,int)", "int seat(int,int,int,int,int)", "int about(int,int)",
@@ -31,22 +31,13 @@ public final class RulesTest {
         "->", "::", "\\bprotected\\b", "Exact\\(", "\\bdouble\\b", "\\bfloat\\b", "\\bvar\\b", "static \\{", "\\bObject\\b",
         "hashCode", "toString", "\\bequals\\b", "System\\.(?!arraycopy\\()", "while \\(true\\)", "for \\(;;"};
 
-    private static int wrong = 0;
-
-    private static void must(boolean holds, String what) {
-        if (holds) return;
-        wrong++;
-        System.out.println("not so: " + what);
-    }
-
     public static void main(String[] args) throws IOException {
         face();
         namesInside();
         words(Files.readString(Path.of(SOURCE)));
         lengths(Files.readString(Path.of(SOURCE)));
         room();
-        System.out.println(wrong == 0 ? "all rules are kept" : wrong + " rules are broken");
-        if (wrong != 0) System.exit(1);
+        end("all rules are kept");
     }
 
     private static String told(Method m) {
