@@ -57,6 +57,8 @@ public final class ModelTest {
         private final int usualWeight;
         private final int mostBeams;
         private final int mostLoads;
+        /** Calls that come first: drawn ones alone hardly ever get to numbers beyond an int. */
+        private final List<int[]> opening = new ArrayList<>();
         private int year = 0;
         int call;
         final int[] n = new int[5];
@@ -70,6 +72,41 @@ public final class ModelTest {
             usualWeight = random.nextInt(4) == 0 ? 9999 : 40;
             mostBeams = gentle ? 1 + random.nextInt(4) : 13;
             mostLoads = gentle ? 1 + random.nextInt(6) : 41;
+            if (seed % 6 == 4) openWithTower();
+            if (seed % 6 == 5) openWithGreatOdds();
+        }
+
+        private void open(String name, int... numbers) {
+            int[] all = new int[1 + numbers.length];
+            all[0] = Arrays.asList(NAMES).indexOf(name);
+            System.arraycopy(numbers, 0, all, 1, numbers.length);
+            opening.add(all);
+        }
+
+        /** Seats as near to one another as may be, on the ends of the beam below: so each pushes far more than it bears. */
+        private void openWithTower() {
+            int turn = 1 + random.nextInt(4);
+            for (int i = 0; i < 12; i++) {
+                int length = i > 0 && random.nextInt(4) == 0 ? 3 * from(1, 20) : 60;
+                open("beam", from(0, 3), length, 40, 40, 0);
+                boolean atEnd = i / turn % 2 == 1;
+                int on = i == 0 ? NONE : i - 1;
+                open("seat", i, atEnd ? 0 : 1, atEnd ? length / 3 * 2 : length / 3, on, atEnd ? 0 : 60);
+                open("seat", i, atEnd ? 1 : 0, atEnd ? length : 0, on, atEnd ? 60 : 0);
+            }
+            for (int i = 0; i < 20; i++) open("load", 11, turn < 3 ? 60 : 0, from(1, 9999));
+        }
+
+        private void openWithGreatOdds() {
+            for (int i = 0; i < 2; i++) {
+                open("beam", 0, 10, 10, 10, 0);
+                open("load", i, 5, from(1, 400));
+                for (int t = 0; t <= 10; t++) open("weight", i, t, from(90, 99));
+            }
+            for (int tool = 0; tool < 4; tool++) {
+                for (int t = 0; t <= 10; t++) open("tool", tool, t, random.nextInt(4) == 0 ? from(1, 9) : 9 - (t + tool / 3) % 3);
+            }
+            for (int l = 0; l < 16; l++) open("look", l % 2, from(0, 3), 1, 0);
         }
 
         private int upTo(int most) {
@@ -94,6 +131,12 @@ public final class ModelTest {
         }
 
         void next(Model m, int c) {
+            if (c < opening.size()) {
+                int[] all = opening.get(c);
+                call = all[0];
+                put(Arrays.copyOfRange(all, 1, all.length));
+                return;
+            }
             call = c < 120 && random.nextInt(3) > 0 ? drawBuilding() : random.nextInt(NAMES.length);
             if (call == FALL && random.nextInt(gentle ? 30 : 8) > 0) call = CHAIN;
             if (call == BEAM && m.beams.size() >= mostBeams) call = WEIGHT;
